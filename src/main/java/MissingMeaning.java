@@ -1033,6 +1033,12 @@ public final class MissingMeaning {
             return textWords[text * MOST_PLACES + place];
         }
 
+        /** Puts the next word of a text, which the caller has made sure there is room for. */
+        void setWordAt(int text, int place, int word) {
+            textWords[text * MOST_PLACES + place] = word;
+            textLength[text] = place + 1;
+        }
+
         int taken(int land, int rule, int word) {
             return ruleWords[(land * MOST_RULES + rule) * MOST_WORDS + word];
         }
@@ -1080,10 +1086,11 @@ public final class MissingMeaning {
     /** Reads a tape into a draft, token by token, up to the first fault. */
     private static final class Scribe {
         private static final int THE_END = 0;
-        private static final int NAME = 1;
-        private static final int NUMBER = 2;
-        private static final int SIGN = 3;
-        private static final int NO_TOKEN = 4;
+        private static final int BLANK = 1;
+        private static final int NAME = 2;
+        private static final int NUMBER = 3;
+        private static final int SIGN = 4;
+        private static final int NO_TOKEN = 5;
 
         private static final int MISPLACED = 1;
         private static final int OUT_OF_BOUNDS = 2;
@@ -1128,7 +1135,9 @@ public final class MissingMeaning {
             } else if (isName("land")) {
                 takeLandLine();
             } else if (isName("rule")) {
-                takeRuleLine();
+                if (opensRule()) {
+                    takeRule(draft.landCount - 1);
+                }
             } else if (isName("text")) {
                 takeTextLine();
             } else {
@@ -1137,10 +1146,10 @@ public final class MissingMeaning {
         }
 
         private void takeBookLine() {
-            takeName("book");
-            takeName("odds");
+            takeIf(isName("book"));
+            takeIf(isName("odds"));
             draft.odds = takeNumber(0, MOST_ODDS);
-            takeName("stock");
+            takeIf(isName("stock"));
             draft.stockTold = takeNumber(0, MOST_TOLD);
         }
 
@@ -1152,10 +1161,10 @@ public final class MissingMeaning {
             } else {
                 nextToken();
                 int kind = kindTold();
-                draft.kind[draft.senseCount] = kind;
                 takeIf(kind != NONE);
-                draft.number[draft.senseCount] =
-                        kind == GIVE || kind == TAKE ? takeNumber(0, MOST_TOLD) : 0;
+                boolean counted = kind == GIVE || kind == TAKE;
+                draft.kind[draft.senseCount] = kind;
+                draft.number[draft.senseCount] = counted ? takeNumber(0, MOST_TOLD) : 0;
                 draft.senseCount++;
             }
         }
@@ -1185,49 +1194,53 @@ public final class MissingMeaning {
             }
         }
 
-        private void takeRuleLine() {
+        /** Whether a rule can stand there; if so, it takes each word to itself as yet. */
+        private boolean opensRule() {
             int land = draft.landCount - 1;
             if (land < 0) {
                 blame(MISPLACED);
-            } else if (draft.ruleCount[land] >= MOST_RULES) {
-                blame(TOO_MANY);
-            } else {
-                nextToken();
-                int rule = draft.ruleCount[land];
-                for (int word = 0; word < draft.wordCount(); word++) {
-                    draft.setTaken(land, rule, word, word);
-                }
-                takeRule(land, rule);
-                draft.ruleCount[land]++;
+                return false;
             }
+            if (draft.ruleCount[land] >= MOST_RULES) {
+                blame(TOO_MANY);
+                return false;
+            }
+            shiftAll(land, draft.ruleCount[land], 0);
+            nextToken();
+            return true;
         }
 
-        private void takeRule(int land, int rule) {
+        private void takeRule(int land) {
+            int rule = draft.ruleCount[land];
             if (isName("shift")) {
                 nextToken();
-                takeShift(land, rule);
+                shiftAll(land, rule, takeNumber(1, MOST_SHIFT));
             } else if (isName("swap")) {
                 nextToken();
                 int first = takeNumber(0, draft.senseCount);
-                int second = takeUnlike(first, first);
+                refuse(first);
+                int second = takeNumber(0, draft.senseCount);
                 draft.setTaken(land, rule, first, second);
                 draft.setTaken(land, rule, second, first);
             } else if (isName("turn")) {
                 nextToken();
                 int first = takeNumber(0, draft.senseCount);
-                int second = takeUnlike(first, first);
-                int third = takeUnlike(first, second);
+                refuse(first);
+                int second = takeNumber(0, draft.senseCount);
+                refuse(first);
+                refuse(second);
+                int third = takeNumber(0, draft.senseCount);
                 draft.setTaken(land, rule, first, second);
                 draft.setTaken(land, rule, second, third);
                 draft.setTaken(land, rule, third, first);
             } else {
-                takeName("rest");
+                takeIf(isName("rest"));
             }
+            draft.ruleCount[land]++;
         }
 
-        private void takeShift(int land, int rule) {
-            int shift = takeNumber(1, MOST_SHIFT);
-            int wordCount = draft.wordCount();
+        private void shiftAll(int land, int rule, int shift) {
+            int wordCount = Math.max(1, draft.wordCount());
             for (int word = 0; word < wordCount; word++) {
                 draft.setTaken(land, rule, word, (word + shift) % wordCount);
             }
@@ -1241,20 +1254,12 @@ public final class MissingMeaning {
             nextToken();
             int text = draft.textCount;
             draft.textCount++;
-            takeTextWord(text, 0);
-            for (int place = 1; place <= MOST_PLACES && blamed == 0 && token == NUMBER; place++) {
-                takeTextWord(text, place);
+            draft.setWordAt(text, 0, takeNumber(0, draft.senseCount));
+            for (int place = 1; place < MOST_PLACES && blamed == 0 && token == NUMBER; place++) {
+                draft.setWordAt(text, place, takeNumber(0, draft.senseCount));
             }
-        }
-
-        private void takeTextWord(int text, int place) {
-            if (place >= MOST_PLACES && tokenNumber <= draft.senseCount) {
-                blame(TOO_MANY);
-            }
-            int word = takeNumber(0, draft.senseCount);
-            if (blamed == 0) {
-                draft.textWords[text * MOST_PLACES + place] = word;
-                draft.textLength[text] = place + 1;
+            if (blamed == 0 && token == NUMBER) {
+                blame(tokenNumber <= draft.senseCount ? TOO_MANY : OUT_OF_BOUNDS);
             }
         }
 
@@ -1264,10 +1269,6 @@ public final class MissingMeaning {
                 blamed = what;
                 blamedPlace = tokenStart;
             }
-        }
-
-        private void takeName(String name) {
-            takeIf(isName(name));
         }
 
         private void takeIf(boolean fitting) {
@@ -1293,19 +1294,19 @@ public final class MissingMeaning {
             return number;
         }
 
-        private int takeUnlike(int one, int another) {
-            if (token == NUMBER && (tokenNumber == one || tokenNumber == another)) {
+        private void refuse(int word) {
+            if (token == NUMBER && tokenNumber == word) {
                 blame(OUT_OF_BOUNDS);
             }
-            return takeNumber(0, draft.senseCount);
         }
 
         private boolean isName(String name) {
-            if (token != NAME || tokenEnd - tokenStart != name.length()) {
+            int length = name.length();
+            if (token != NAME || tokenEnd - tokenStart != length || tokenEnd > tape.length) {
                 return false;
             }
-            for (int i = 0; i < name.length(); i++) {
-                if (byteAt(tokenStart + i) != name.charAt(i)) {
+            for (int i = 0; i < length; i++) {
+                if (tape.bytes[tokenStart + i] != name.charAt(i)) {
                     return false;
                 }
             }
@@ -1314,49 +1315,44 @@ public final class MissingMeaning {
 
         private void nextToken() {
             int start = tokenEnd;
-            while (start < tape.length && isBlank(byteAt(start))) {
+            while (start < tape.length && partAt(start) == BLANK) {
                 start++;
             }
+            token = partAt(start);
+            int end = start < tape.length ? start + 1 : start;
+            boolean mayBeLonger = token == NAME || token == NUMBER;
+            while (mayBeLonger && end < tape.length && partAt(end) == token) {
+                end++;
+            }
             tokenStart = start;
-            tokenEnd = Math.min(start + 1, tape.length);
-            tokenNumber = 0;
-            if (start >= tape.length) {
-                token = THE_END;
-            } else if (isLetter(byteAt(start))) {
-                token = NAME;
-                while (tokenEnd < tape.length && isLetter(byteAt(tokenEnd))) {
-                    tokenEnd++;
-                }
-            } else if (isDigit(byteAt(start))) {
-                token = NUMBER;
-                takeDigits();
-            } else {
-                token = byteAt(start) == ';' ? SIGN : NO_TOKEN;
+            tokenEnd = end;
+            tokenNumber = token == NUMBER ? numberTold() : 0;
+        }
+
+        private int numberTold() {
+            int number = 0;
+            for (int place = tokenStart; place < tokenEnd && number < HUGE; place++) {
+                number = 10 * number + tape.bytes[place] - '0';
             }
+            return number;
         }
 
-        private void takeDigits() {
-            tokenNumber = byteAt(tokenStart) - '0';
-            while (tokenEnd < tape.length && isDigit(byteAt(tokenEnd))) {
-                tokenNumber = Math.min(HUGE, 10 * tokenNumber + byteAt(tokenEnd) - '0');
-                tokenEnd++;
+        /** What the byte at a place can be part of. */
+        private int partAt(int place) {
+            if (place < 0 || place >= tape.length) {
+                return THE_END;
             }
-        }
-
-        private int byteAt(int place) {
-            return place >= 0 && place < tape.length ? tape.bytes[place] : 0;
-        }
-
-        private static boolean isBlank(int sign) {
-            return sign == 32 || sign == 10;
-        }
-
-        private static boolean isLetter(int sign) {
-            return sign >= 'a' && sign <= 'z';
-        }
-
-        private static boolean isDigit(int sign) {
-            return sign >= '0' && sign <= '9';
+            int sign = tape.bytes[place];
+            if (sign == ' ' || sign == 10) {
+                return BLANK;
+            }
+            if (sign >= 'a' && sign <= 'z') {
+                return NAME;
+            }
+            if (sign >= '0' && sign <= '9') {
+                return NUMBER;
+            }
+            return sign == ';' ? SIGN : NO_TOKEN;
         }
     }
 

@@ -1,4 +1,6 @@
 import java.io.IOException;
+import java.io.PrintWriter;
+import java.io.StringWriter;
 import java.lang.reflect.Constructor;
 import java.lang.reflect.Field;
 import java.lang.reflect.Method;
@@ -8,10 +10,13 @@ import java.nio.file.Path;
 import java.util.ArrayList;
 import java.util.HashSet;
 import java.util.List;
+import java.util.Map;
 import java.util.Set;
+import java.util.TreeMap;
 import java.util.TreeSet;
 import java.util.regex.Matcher;
 import java.util.regex.Pattern;
+import java.util.spi.ToolProvider;
 
 /** What can be seen of LANGUAGE.md's rules in the file and in the class, and the document's face. */
 public final class LanguageTest {
@@ -26,6 +31,7 @@ public final class LanguageTest {
         methods(bare);
         face(Files.readString(DOCUMENT));
         classes();
+        depth();
         for (char c : source.toCharArray()) {
             CHECK.that("a sign from 1 to 127", c > 0 && c < 128);
         }
@@ -119,6 +125,45 @@ public final class LanguageTest {
                 CHECK.that("at most seven parameters: " + m, m.getParameterCount() <= 7);
             }
         }
+    }
+
+    /** Rules 8 and 11: by the compiled calls, none goes deeper than eight, and none calls itself. */
+    private static void depth() {
+        Map<String, Set<String>> calls = new TreeMap<>();
+        for (Class<?> c : all()) {
+            StringWriter text = new StringWriter();
+            ToolProvider javap = ToolProvider.findFirst("javap").orElseThrow();
+            String path = System.getProperty("java.class.path");
+            javap.run(new PrintWriter(text), new PrintWriter(text), "-c", "-p", "-classpath", path, c.getName());
+            String own = c.getName();
+            String method = "";
+            for (String line : text.toString().split("\n")) {
+                Matcher head = Pattern.compile("^  [^ ].*?(\\S+)\\(.*\\)( throws .*)?;$").matcher(line);
+                Matcher call = Pattern.compile("// Method (?:([\\w/$]+)\\.)?\"?([\\w<>]+)\"?:").matcher(line);
+                if (head.find()) {
+                    method = head.group(1).equals(own) ? own + ".<init>" : own + "." + head.group(1);
+                    calls.put(method, new TreeSet<>());
+                } else if (call.find()) {
+                    calls.get(method).add((call.group(1) == null ? own : call.group(1)) + "." + call.group(2));
+                }
+            }
+        }
+        int deepest = 0;
+        for (String method : calls.keySet()) {
+            deepest = Math.max(deepest, deepFrom(method, calls, 1));
+        }
+        System.out.println("LanguageTest: calls go " + deepest + " deep");
+        CHECK.that("calls are seen, at most eight deep", deepest >= 4 && deepest <= 8);
+    }
+
+    private static int deepFrom(String method, Map<String, Set<String>> calls, int depth) {
+        int deepest = depth;
+        if (depth < 40) {
+            for (String called : calls.getOrDefault(method, Set.of())) {
+                deepest = Math.max(deepest, deepFrom(called, calls, depth + 1));
+            }
+        }
+        return deepest;
     }
 
     private static List<Class<?>> all() {
