@@ -117,6 +117,12 @@ public final class GrammarTest {
         marked(1, START + "text 0 ^x;");
         marked(1, START + "text 0 0^");
         marked(1, START + "^texts 0;");
+        marked(1, START + "^landz;");
+        marked(1, START + "^alandz;");
+        marked(1, START + "land^`;");
+        marked(1, START + "land^{;");
+        marked(1, START + "text 0^/;");
+        marked(1, START + "text 0^:;");
         marked(1, START + "^tex t 0;");
     }
 

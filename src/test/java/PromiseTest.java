@@ -199,6 +199,7 @@ public final class PromiseTest {
         due("17 day", x.stays(0, -1), -2);
         due("17 day", x.stays(0, FAR + 1), -2);
         MissingMeaning bare = Books.of(BARE + "land; rule shift 9; text 0;");
+        due("8 no senses", bare.rule(0, 0, 0), 0);
         due("9 no senses", bare.means(0, 5, 0), 0);
         due("9 no senses", bare.means(0, 5, 1), -2);
         due("10 no senses", bare.says(0, 5, 0), 0);
@@ -285,6 +286,14 @@ public final class PromiseTest {
         due("18 skip and stop", y.read(0, 0, 0), 26);
         due("18 skip at the end", y.read(0, 0, 1), 4);
         due("18 on day 1", y.read(0, 1, 0), 20);
+        MissingMeaning least = Books.of("book odds 0 stock 0; sense skip; sense stop; sense give 5; land;"
+                + "text 0 2 2; text 2 1 2; text 1 2; text 0 1 2 1 2;");
+        int[][] due = {{5, 2, 1}, {5, 2, 1}, {0, 1, 1}, {5, 3, 2}};
+        for (int text = 0; text < 4; text++) {
+            due("18 with a stock of 0", least.read(0, 0, text), due[text][0]);
+            due("19 with a stock of 0", least.heard(0, 0, text), due[text][1]);
+            due("31 with a stock of 0", least.lost(0, 0, text), due[text][2]);
+        }
         due("19 heard(0, 0, 0)", y.heard(0, 0, 0), 4);
         due("19 heard(0, 0, 1)", y.heard(0, 0, 1), 3);
         due("19 heard(0, 1, 0)", y.heard(0, 1, 0), 6);
@@ -543,6 +552,9 @@ public final class PromiseTest {
         due("46 a later day", late.differs(0, 1), 0);
         due("45 two lands, never", late.differ(0, 2), -1);
         due("46 two lands, never", late.differs(0, 2), -1);
+        late.swaps(2, 1, 2);
+        due("45 by acts on day 0", late.differ(0, 2), 0);
+        due("46 by acts on day 0", late.differs(0, 2), 1);
     }
 
     private static void tear(MissingMeaning x, int slot, int... numbers) {
