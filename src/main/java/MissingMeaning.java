@@ -518,10 +518,12 @@ public final class MissingMeaning {
         if (!isLand(land) || !isLand(other) || n < 1 || n > MOST_DAYS_ALIKE) {
             return NO_SUCH;
         }
+        // Each day is looked at once, and counts as often as it comes round within the n.
+        int period = commonMultiple(world.period(land), world.period(other));
         int days = 0;
-        for (int day = 0; day < n; day++) {
+        for (int day = 0; day < n && day < period; day++) {
             if (world.firstUnlike(land, day, other, day) == NONE) {
-                days++;
+                days += (n - 1 - day) / period + 1;
             }
         }
         return days;
@@ -936,6 +938,11 @@ public final class MissingMeaning {
             lesser = rest;
         }
         return greater;
+    }
+
+    private static int commonMultiple(int a, int b) {
+        int divisor = (int) greatestDivisor(a, b);
+        return divisor == 0 ? 1 : a / divisor * b;
     }
 
     private static long inLowestTerms(long above, long below, int what) {
@@ -1384,9 +1391,7 @@ public final class MissingMeaning {
             }
             turns = 1;
             for (int word = 0; word < wordCount; word++) {
-                int cycle = cycleOf(word);
-                int divisor = (int) greatestDivisor(turns, cycle);
-                turns = divisor == 0 ? turns : turns / divisor * cycle;
+                turns = commonMultiple(turns, cycleOf(word));
             }
         }
 
