@@ -116,6 +116,16 @@ public final class EdgeTest {
         due("7 one word", x.word(0, 1), -1);
         due("9 no such word", x.means(0, 0, 2), -2);
         due("18 read", x.read(0, Books.FAR, 0), 3);
+        Books.tell(x, Books.FULL);
+        for (int text = -1; text <= 6; text++) {
+            boolean is = text >= 0 && text < 6;
+            due("7 text " + text + ", place -1", x.word(text, -1), is ? -1 : -2);
+            due("7 text " + text + ", place 0", x.word(text, 0), is ? text == 0 ? 0 : 9 : -2);
+            due("7 text " + text + ", place 7", x.word(text, 7), is ? text == 0 ? 7 : -1 : -2);
+            due("7 text " + text + ", place 8", x.word(text, 8), is ? -1 : -2);
+            due("7 text " + text + ", far", x.word(text, Integer.MAX_VALUE), is ? -1 : -2);
+            due("7 text " + text + ", far below", x.word(text, Integer.MIN_VALUE), is ? -1 : -2);
+        }
     }
 
     /** III: all 9,999 at most, 0 at least. */
@@ -372,6 +382,11 @@ public final class EdgeTest {
         due("29 the first and the last are not one", all.run(0, 2), 1);
         all.stock(99);
         due("29 above what it is now", all.run(0, 0), 3);
+        MissingMeaning gap = Books.of("book odds 0 stock 5; sense give 1; sense take 0; sense give 1; sense give 1; land;"
+                + "rule shift 1; text 0; text 2; text 3;");
+        due("29 behind a gap", gap.run(0, 0), 2);
+        due("29 ahead of a gap", gap.run(0, 1), 2);
+        due("29 one, a gap, one", gap.run(0, 2), 1);
         MissingMeaning capped = Books.of("book odds 0 stock 0; sense double; land; text 0;");
         due("29 twice nothing", capped.run(0, 0), 0);
         due("30 above", x.average(0, 0, 0), 5);
@@ -408,6 +423,9 @@ public final class EdgeTest {
         due("33 9,999 is the most", most.better(0, 0, 0), -1);
         due("33 9,999 is the most", most.better(0, 0, 1), -1);
         due("33 the last word", Books.of("book odds 0 stock 9;" + "sense take 1;".repeat(9) + "land; text 0 0;").better(0, 0, 0), 9);
+        MissingMeaning zero = Books.of("book odds 0 stock 9; sense give 9; sense take 1; land; text 1; text 0 1;");
+        due("33 the first word", zero.better(0, 0, 0), 0);
+        due("33 the first word at a later place", zero.better(0, 0, 1), 10);
         due("34 the first of several", x.richest(0, 0), 1);
         due("34 one alone", Books.of(Books.TEN).richest(0, 1), 2);
         due("34 the last", Books.of(Books.TEN).richest(0, 2), 5);

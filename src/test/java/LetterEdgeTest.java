@@ -193,6 +193,13 @@ public final class LetterEdgeTest {
         due("53 four of them", stops.wording(0, 0, 1, 13), 4);
         due("55 stop, skip, nothing: one word", stops.wordings(0, 0, 1, 9), 3);
         due("54 the least: skip", stops.worded(0, 0, 1, 9, 0), 0);
+        MissingMeaning later = Books.of("book odds 0 stock 9; sense take 99; sense give 1; sense give 5; land;");
+        int[][] rows = {{11, 1, 1, -1}, {15, 1, 2, -1}, {19, 2, 2, -1}, {20, 1, 2, 2}};
+        for (int[] row : rows) {
+            for (int i = 1; i < row.length; i++) {
+                due("54 a stock of " + row[0] + ", place " + (i - 1), later.worded(0, 0, 1, row[0], i - 1), row[i]);
+            }
+        }
         MissingMeaning bare = Books.of("book odds 0 stock 9; land;");
         due("53 no senses", bare.wording(0, 0, 7, 9), 1);
         due("54 no senses", bare.worded(0, 0, 7, 9, 0), 0);
