@@ -1046,10 +1046,16 @@ public final class PromiseTest {
         due("73 as told", y.torn(0, 0), 1);
     }
 
-    /** Every promise on a new object, which has no BOOK. */
+    /** Every promise without a BOOK: on a new object, behind an empty tape, back at an image of none. */
     private static void withoutBook() {
         MissingMeaning x = new MissingMeaning();
-        for (int twice = 0; twice < 2; twice++) {
+        due("2 without a book", x.feed(0x20202020, 0x20202020, 0x20202020, 0x20202020, 0x20202020), 20);
+        due("3 without a book", x.end(7), 7);
+        due("4 without a book", x.book(), 0);
+        due("5 without a book", x.fault(0), 0);
+        due("5 without a book", x.fault(1), -1);
+        due("69 without a book", x.image(2), 0);
+        for (int time = 0; time < 3; time++) {
             long[] answers = {x.sense(0, 0), x.word(0, 0), x.rule(0, 0, 0), x.means(0, 0, 0), x.says(0, 0, 0),
                 x.round(0), x.when(0, 0, 0, 0), x.often(0, 0, 0), x.may(0, 0), x.mute(0), x.muted(0), x.stays(0, 0),
                 x.read(0, 0, 0), x.heard(0, 0, 0), x.silent(0, 0, 0), x.again(0, 0, 0), x.first(0, 0, 0, 0),
@@ -1073,9 +1079,12 @@ public final class PromiseTest {
             due("71 without a book", x.row(0, 0, 2), 0);
             due("72 without a book", x.write(0, 0, 2), 0);
             due("73 without a book", x.paste(0, 0, 0, 1, 1), 0);
-            // The second time behind a book that was there, and is no more.
             Books.tell(x, A);
-            Books.tell(x, "");
+            if (time == 0) {
+                due("4 without a book", Books.tell(x, ""), 0);
+            } else {
+                due("70 without a book", x.back(2), 0);
+            }
         }
     }
 }
